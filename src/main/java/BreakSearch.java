@@ -361,7 +361,7 @@ public final class BreakSearch {
 
         private boolean findsWay(int inPass, int lineCount) {
             pass = inPass;
-            Arrays.fill(costs, NO_WAY);
+            closeAll();
             openEnd(lineCount);
             boolean marksToo = rules.breaksAtMarksIn(pass);
             for (int from = items.count - 1; from >= BEGINNING; from--) {
@@ -370,6 +370,13 @@ public final class BreakSearch {
                 }
             }
             return costs[cellOf(BEGINNING, 0, 0)] != NO_WAY;
+        }
+
+        private void closeAll() {
+            int used = cellOf(items.count + 1, 0, 0);
+            for (int cell = 0; cell < used && cell < CELLS; cell++) {
+                costs[cell] = NO_WAY;
+            }
         }
 
         private void openEnd(int lineCount) {
