@@ -1,719 +1,784 @@
-/** Each promise of the document by itself: ordinary inputs, the edges that it names, wrong inputs. */
+/** The document's promises 1 to 16: each sentence that names a bound or a case of its own has a test here. */
 public final class BreakSearchPromises {
-    private static final int MARK_FEE = 3000;
+    private static final int BAD = -1;
+    private static final int FULL = -2;
     private static final int CLASS_FEE = 2000;
+    private static final long WORST_LINE = 10010L * 10010;
+    private static final int[] FAR = {Integer.MIN_VALUE, Integer.MIN_VALUE + 1, -16385, 16384, 65536, Integer.MAX_VALUE};
 
-    private static int wrong = 0;
+    private static void promise(int number, String words) {
+        Due.by("Promise " + number, words);
+    }
 
-    private static void due(String what, long got, long want) {
-        if (got != want) {
-            wrong++;
-            System.out.println(what + " answered " + got + ", due is " + want);
+    // What it is, and the face
+
+    private static void lastOfManyCalls() {
+        Due.by("What it is", "An object is used for at most 512 calls after it has been made");
+        BreakSearch x = new BreakSearch(10);
+        for (int call = 1; call <= 100; call++) {
+            Due.answer("box(1)", x.box(1), call - 1);
         }
-    }
-
-    private static void dueWay(String what, BreakSearch x, int pass, long demerits, int... ends) {
-        due(what + ": lines", x.lines(), ends.length);
-        due(what + ": pass", x.pass(), pass);
-        due(what + ": demerits", x.demerits(), demerits);
-        for (int i = 0; i < ends.length; i++) {
-            due(what + ": at " + i, x.at(i), ends[i]);
+        Due.answer("run()", x.run(), 0);
+        Due.answer("clear()", x.clear(), 100);
+        for (int call = 103; call <= 510; call++) {
+            Due.answer("run() as call " + call, x.run(), 1);
         }
-        due(what + ": at behind", x.at(ends.length), -1);
+        Due.answer("loose(1) as call 511", x.loose(1), 1);
+        Due.answer("lacks(0) as call 512", x.lacks(0), 10);
     }
 
-    private static void dueLine(String what, BreakSearch x, int line, int lacks, int badness, int sort) {
-        due(what + ": lacks " + line, x.lacks(line), lacks);
-        due(what + ": badness " + line, x.badness(line), badness);
-        due(what + ": classOf " + line, x.classOf(line), sort);
+    private static void constants() {
+        Due.by("The public face", "BAD = -1; FULL = -2");
+        Due.answer("BAD", BreakSearch.BAD, BAD);
+        Due.answer("FULL", BreakSearch.FULL, FULL);
     }
 
-    /** Boxes of these widths, with a forced, unmarked penalty behind each one but the last. */
-    private static BreakSearch rows(int width, int... boxes) {
-        BreakSearch x = new BreakSearch(width);
-        x.setting(0, 10000);
-        for (int i = 0; i < boxes.length; i++) {
-            if (i > 0) {
-                x.penalty(-10000, 0, false);
-            }
-            x.box(boxes[i]);
-        }
-        return x;
-    }
+    // Promise 1
 
-    /** One line "box glue box" that ends at a forced penalty, so that it has to be just so. */
-    private static BreakSearch oneLine(int width, int stretch, int shrink) {
-        BreakSearch x = oneLineAsNew(width, stretch, shrink);
-        x.setting(0, 10000);
-        return x;
-    }
-
-    private static BreakSearch oneLineAsNew(int width, int stretch, int shrink) {
-        BreakSearch x = new BreakSearch(width);
-        x.box(50);
-        x.penalty(10000, 0, false);
-        x.glue(0, stretch, shrink);
-        x.box(50);
-        x.penalty(-10000, 0, false);
-        x.box(0);
-        return x;
-    }
-
-    private static void newObject() {
-        due("BAD", BreakSearch.BAD, -1);
-        due("FULL", BreakSearch.FULL, -2);
+    private static void newHasNoItems() {
+        promise(1, "No items");
         BreakSearch x = new BreakSearch(100);
-        dueWay("new", x, 0, 0);
-        dueLine("new", x, 0, 0, 0, 0);
-        due("no items", x.clear(), 0);
-        due("run", x.run(), 1);
-        dueWay("empty", x, 1, 100, 0);
-        dueLine("empty", x, 0, 100, 0, 1);
-        int[] widths = {0, 16383, 16384, 16385, -1, Integer.MIN_VALUE, Integer.MAX_VALUE};
-        int[] lasts = {0, 16383, 0, 1, 16383, 0, 16383};
-        for (int i = 0; i < widths.length; i++) {
-            BreakSearch y = new BreakSearch(widths[i]);
-            y.run();
-            due("width " + widths[i], y.lacks(0), lasts[i]);
+        Due.noWay(x);
+        Due.answer("loose(1)", x.loose(1), BAD);
+        Due.answer("clear()", x.clear(), 0);
+        Due.answer("box(1)", x.box(1), 0);
+        BreakSearch y = new BreakSearch(100);
+        Due.answer("run()", y.run(), 1);
+        Due.way(y, 1, 100, 0);
+        Due.line(y, 0, 100, 0, 1);
+    }
+
+    private static void newWidth() {
+        promise(1, "all lines have that WIDTH");
+        BreakSearch x = Made.open(7, Made.times(49, "pen:-10000"));
+        Due.answer("run()", x.run(), 50);
+        for (int line = 0; line < 50; line++) {
+            Due.answer("lacks(" + line + ")", x.lacks(line), 7);
         }
-        newTolerances();
-        allLinesAreThatWide();
+
+        promise(1, "its last 14 bits");
+        int[][] widths = {{0, 0}, {1, 1}, {10001, 10001}, {16383, 16383}, {16384, 0}, {16385, 1}, {32767, 16383},
+            {65536, 0}, {-1, 16383}, {-16383, 1}, {-16384, 0}, {-16385, 16383}, {Integer.MIN_VALUE, 0},
+            {Integer.MIN_VALUE + 5, 5}, {Integer.MAX_VALUE, 16383}};
+        for (int[] w : widths) {
+            Due.answer("lacks(0) of new BreakSearch(" + w[0] + ")", Made.found(w[0], "").lacks(0), w[1]);
+        }
     }
 
     /** Of stretch 300: lacking 300 is bad by 100, 301 by 101, 378 by 200, 379 by 201. */
-    private static void newTolerances() {
-        int[] lacks = {300, 301, 378, 379};
-        int[] passes = {1, 2, 2, 0};
-        for (int i = 0; i < lacks.length; i++) {
-            BreakSearch x = oneLineAsNew(100 + lacks[i], 300, 0);
+    private static void newSettings() {
+        promise(1, "tolerances 100 and 200");
+        int[][] passes = {{300, 1}, {301, 2}, {378, 2}, {379, 0}};
+        for (int[] p : passes) {
+            BreakSearch x = Made.plain(100 + p[0], Made.lineItems(300, 0));
             x.run();
-            due("tolerance when lacking " + lacks[i], x.pass(), passes[i]);
+            Due.answer("pass() when lacking " + p[0], x.pass(), p[1]);
+        }
+
+        promise(1, "no emergency stretch");
+        for (int stretch : new int[] {0, 300}) {
+            BreakSearch x = Made.plain(100 + (stretch == 0 ? 1 : 379), Made.lineItems(stretch, 0));
+            Due.answer("run()", x.run(), 0);
         }
     }
 
-    private static void allLinesAreThatWide() {
-        BreakSearch x = new BreakSearch(7);
-        x.setting(0, 10000);
-        for (int i = 0; i < 49; i++) {
-            x.penalty(-10000, 0, false);
-        }
-        due("run of 50 lines", x.run(), 50);
-        for (int i = 0; i < 50; i++) {
-            due("width of line " + i, x.lacks(i), 7);
-        }
-    }
+    // Promises 2 to 4: items, and what is refused
 
-    private static void box() {
+    private static void boxNumbers() {
+        promise(2, "A box behind the others: its number");
         BreakSearch x = new BreakSearch(0);
-        due("box(-1)", x.box(-1), -1);
-        due("box(10001)", x.box(10001), -1);
-        due("box(min)", x.box(Integer.MIN_VALUE), -1);
-        due("box(max)", x.box(Integer.MAX_VALUE), -1);
-        due("box(0)", x.box(0), 0);
-        due("box(10000)", x.box(10000), 1);
-        due("run: too long", x.run(), 0);
-        due("clear", x.clear(), 2);
-        for (int i = 0; i < 100; i++) {
-            due("box number", x.box(1), i);
+        Due.answer("box(0)", x.box(0), 0);
+        Due.answer("glue(0, 0, 0)", x.glue(0, 0, 0), 1);
+        Due.answer("box(10000)", x.box(10000), 2);
+
+        promise(2, "BAD out of range");
+        BreakSearch y = Made.open(10, "box:4");
+        for (int width : with(FAR, -1, 10001)) {
+            Due.answer("box(" + width + ")", y.box(width), BAD);
         }
-        due("box when full", x.box(1), -2);
-        due("bad box when full", x.box(-1), -1);
-        due("glue when full", x.glue(1, 1, 1), -2);
-        due("bad glue when full", x.glue(-1, 1, 1), -1);
-        due("penalty when full", x.penalty(1, 1, false), -2);
-        due("bad penalty when full", x.penalty(10001, 1, false), -1);
-        due("how many", x.clear(), 100);
-        due("box after clear", x.box(1), 0);
+        staysAsItWas(y);
     }
 
-    private static void glue() {
+    private static int[] with(int[] some, int... more) {
+        int[] all = java.util.Arrays.copyOf(some, some.length + more.length);
+        System.arraycopy(more, 0, all, some.length, more.length);
+        return all;
+    }
+
+    /** An object of width 10 with one box of 4, to which only refused calls have come. */
+    private static void staysAsItWas(BreakSearch x) {
+        Due.answer("run() after what was refused", x.run(), 1);
+        Due.way(x, 1, 100, 1);
+        Due.line(x, 0, 6, 0, 1);
+        Due.answer("box(6) after what was refused", x.box(6), 1);
+        Due.answer("clear() after what was refused", x.clear(), 2);
+    }
+
+    private static void full(int promise, String items) {
+        promise(promise, "FULL");
+        BreakSearch x = new BreakSearch(10);
+        for (int i = 0; i < 99; i++) {
+            Made.add(x, "box:0");
+        }
+        Made.add(x, items);
+        for (int again = 0; again < 2; again++) {
+            Due.answer("box(1) as item 100", x.box(1), FULL);
+            Due.answer("glue(1, 1, 1) as item 100", x.glue(1, 1, 1), FULL);
+            Due.answer("penalty(-10000, 1, false) as item 100", x.penalty(-10000, 1, false), FULL);
+        }
+        Due.answer("run()", x.run(), 1);
+        Due.ends(x, 100);
+        Due.answer("clear()", x.clear(), 100);
+        Due.answer("box(1) when there is room again", x.box(1), 0);
+    }
+
+    /** Where both could be answered, BAD is: it stands first in the document. */
+    private static void badWhenFull() {
+        BreakSearch x = Made.plain(10, Made.times(100, "box:0"));
+        promise(2, "BAD out of range; FULL");
+        Due.answer("box(-1)", x.box(-1), BAD);
+        Due.answer("box(10001)", x.box(10001), BAD);
+        promise(3, "BAD out of range; FULL");
+        Due.answer("glue(-1, 0, 0)", x.glue(-1, 0, 0), BAD);
+        Due.answer("glue(0, 10001, 0)", x.glue(0, 10001, 0), BAD);
+        Due.answer("glue(0, 0, 1001)", x.glue(0, 0, 1001), BAD);
+        promise(4, "BAD out of range; FULL");
+        Due.answer("penalty(10001, 0, false)", x.penalty(10001, 0, false), BAD);
+        Due.answer("penalty(0, -1, true)", x.penalty(0, -1, true), BAD);
+    }
+
+    private static void glueNumbers() {
+        promise(3, "Glue behind the others: its number");
         BreakSearch x = new BreakSearch(0);
-        int[][] bad = {{-1, 0, 0}, {10001, 0, 0}, {0, -1, 0}, {0, 10001, 0}, {0, 0, -1}, {0, 0, 1001}};
-        for (int[] g : bad) {
-            due("bad glue", x.glue(g[0], g[1], g[2]), -1);
+        Due.answer("glue(0, 0, 0)", x.glue(0, 0, 0), 0);
+        Due.answer("box(0)", x.box(0), 1);
+        Due.answer("glue(10000, 10000, 1000)", x.glue(10000, 10000, 1000), 2);
+
+        promise(3, "BAD out of range");
+        BreakSearch y = Made.open(10, "box:4");
+        for (int size : with(FAR, -1, 10001)) {
+            Due.answer("glue(" + size + ", 0, 0)", y.glue(size, 0, 0), BAD);
+            Due.answer("glue(0, " + size + ", 0)", y.glue(0, size, 0), BAD);
+            Due.answer("glue(10000, 10000, " + size + ")", y.glue(10000, 10000, size), BAD);
         }
-        due("glue(0, 0, 0)", x.glue(0, 0, 0), 0);
-        due("glue(10000, 10000, 1000)", x.glue(10000, 10000, 1000), 1);
-        due("clear", x.clear(), 2);
-        glueBreaks();
-        glueSums();
+        Due.answer("glue(0, 0, 1001)", y.glue(0, 0, 1001), BAD);
+        Due.answer("glue(-1, -1, -1)", y.glue(-1, -1, -1), BAD);
+        staysAsItWas(y);
     }
 
-    /** Glue is a break only with a box right before it; behind a break it is not in the line. */
-    private static void glueBreaks() {
-        BreakSearch x = new BreakSearch(10);
-        x.setting(0, 10000);
-        x.box(10);
-        x.glue(3, 0, 0);
-        x.glue(4, 0, 0);
-        x.penalty(10000, 0, false);
-        x.glue(5, 0, 0);
-        x.box(10);
-        due("run", x.run(), 2);
-        dueWay("glue behind glue", x, 1, 200, 1, 6);
-        x.clear();
-        x.box(10);
-        x.penalty(10000, 0, false);
-        x.glue(3, 0, 0);
-        x.box(10);
-        due("no break at glue behind a penalty", x.run(), 0);
-        x.clear();
-        x.glue(2, 0, 0);
-        x.box(8);
-        x.glue(0, 0, 0);
-        x.box(10);
-        due("leading glue is in the first line", x.run(), 2);
-        dueWay("leading glue", x, 1, 200, 2, 4);
-    }
-
-    private static void glueSums() {
-        BreakSearch x = new BreakSearch(100);
-        x.setting(0, 10000);
-        x.glue(1, 10, 500);
-        x.box(20);
-        x.penalty(10000, 9, false);
-        x.glue(2, 20, 600);
-        x.box(30);
-        x.penalty(0, 4, false);
-        x.glue(3, 40, 700);
-        x.penalty(-10000, 6, false);
-        x.run();
-        due("sums: ends", x.at(0), 7);
-        dueLine("sums", x, 0, 38, 15, 2);
-        x.clear();
-        x.glue(100, 0, 500);
-        x.box(200);
-        x.penalty(10000, 0, false);
-        x.glue(300, 0, 300);
-        x.box(0);
-        x.run();
-        dueLine("shrinks", x, 0, -500, 24, 0);
-    }
-
-    private static void penalty() {
+    private static void penaltyNumbers() {
+        promise(4, "A penalty behind the others: its number");
         BreakSearch x = new BreakSearch(0);
-        due("p 10001", x.penalty(10001, 0, false), -1);
-        due("p -10001", x.penalty(-10001, 0, true), -1);
-        due("width -1", x.penalty(0, -1, false), -1);
-        due("width 10001", x.penalty(0, 10001, true), -1);
-        due("p 10000", x.penalty(10000, 10000, true), 0);
-        due("p -10000", x.penalty(-10000, 0, false), 1);
-        penaltyWidths();
-        penaltyCosts();
-        penaltyMarks();
-        penaltyForces();
-    }
+        Due.answer("penalty(-10000, 0, false)", x.penalty(-10000, 0, false), 0);
+        Due.answer("box(0)", x.box(0), 1);
+        Due.answer("penalty(10000, 10000, true)", x.penalty(10000, 10000, true), 2);
 
-    private static void penaltyWidths() {
-        BreakSearch x = new BreakSearch(10);
-        x.box(4);
-        x.penalty(0, 6, false);
-        x.box(5);
-        x.penalty(10000, 9, false);
-        x.box(5);
-        due("run", x.run(), 2);
-        dueWay("only the penalty at the end is as wide", x, 1, 200, 1, 5);
-        dueLine("penalty in", x, 0, 0, 0, 1);
-        dueLine("penalty passed", x, 1, 0, 0, 1);
-    }
-
-    private static void penaltyCosts() {
-        int[] ps = {0, 1, 7, 9999, -1, -7, -9999, -10000};
-        for (int p : ps) {
-            BreakSearch x = new BreakSearch(10);
-            x.box(10);
-            x.penalty(p, 0, false);
-            x.box(10);
-            long more = p == -10000 ? 0 : p < 0 ? -(long) p * p : (long) p * p;
-            due("run at " + p, x.run(), 2);
-            dueWay("penalty " + p, x, 1, 200 + more, 1, 3);
+        promise(4, "BAD out of range");
+        BreakSearch y = Made.open(10, "box:4");
+        for (int v : with(FAR, -10001, 10001)) {
+            Due.answer("penalty(" + v + ", 0, false)", y.penalty(v, 0, false), BAD);
+            Due.answer("penalty(-10000, " + v + ", true)", y.penalty(-10000, v, true), BAD);
         }
-        BreakSearch x = new BreakSearch(10);
-        x.box(10);
-        x.penalty(10000, 0, false);
-        x.box(10);
-        due("no break at 10000", x.run(), 0);
+        Due.answer("penalty(0, -1, false)", y.penalty(0, -1, false), BAD);
+        Due.answer("penalty(10001, -1, true)", y.penalty(10001, -1, true), BAD);
+        staysAsItWas(y);
     }
 
-    private static void penaltyMarks() {
-        boolean[] both = {false, true};
-        for (boolean first : both) {
-            for (boolean second : both) {
-                BreakSearch x = rows(10, 10);
-                x.penalty(50, 0, first);
-                x.box(10);
-                x.penalty(-10000, 0, second);
-                x.box(10);
-                x.run();
-                long fee = first && second ? MARK_FEE : 0;
-                dueWay("marks", x, first || second ? 2 : 1, 2800 + fee, 1, 3, 5);
-            }
-        }
-        BreakSearch x = rows(10, 10);
-        x.penalty(0, 0, true);
-        x.box(10);
-        x.penalty(-10000, 0, false);
-        x.box(10);
-        x.penalty(0, 0, true);
-        x.box(10);
-        x.run();
-        dueWay("marks that are not neighbours", x, 2, 400, 1, 3, 5, 7);
-    }
-
-    private static void penaltyForces() {
-        BreakSearch x = new BreakSearch(100);
-        x.setting(0, 10000);
-        x.box(10);
-        x.penalty(-10000, 0, false);
-        x.penalty(-10000, 3, false);
-        x.glue(5, 5, 5);
-        x.penalty(-10000, 4, false);
-        due("one line for each", x.run(), 4);
-        dueWay("forced", x, 1, 3 * 10010L * 10010 + 100 + CLASS_FEE, 1, 2, 4, 5);
-        dueLine("forced", x, 1, 97, 10000, 3);
-        dueLine("forced", x, 2, 96, 10000, 3);
-        dueLine("forced", x, 3, 100, 0, 1);
-        x.clear();
-        x.box(10);
-        x.penalty(-10000, 0, true);
-        x.box(10);
-        due("marked and forced: not in pass 1", x.run(), 0);
-        x.setting(1, 10000);
-        due("but in pass 2", x.run(), 2);
-        due("pass", x.pass(), 2);
-    }
+    // Promise 5
 
     private static void shape() {
-        BreakSearch x = new BreakSearch(30);
-        int[][] bad = {{-1, 5}, {50, 5}, {0, -1}, {0, 10001}, {Integer.MIN_VALUE, 5}, {Integer.MAX_VALUE, 5}};
-        for (int[] s : bad) {
-            due("bad shape", x.shape(s[0], s[1]), -1);
+        promise(5, "Line number's WIDTH (lines 0 .. 49, 0 .. 10000): 1");
+        BreakSearch x = Made.open(30, Made.times(49, "pen:-10000"));
+        Due.answer("shape(0, 10000)", x.shape(0, 10000), 1);
+        Due.answer("shape(1, 1)", x.shape(1, 1), 1);
+        Due.answer("shape(2, 0)", x.shape(2, 0), 1);
+        Due.answer("shape(48, 5)", x.shape(48, 5), 1);
+        Due.answer("shape(48, 9999)", x.shape(48, 9999), 1);
+        Due.answer("shape(49, 77)", x.shape(49, 77), 1);
+        Due.answer("run()", x.run(), 50);
+        for (int line = 0; line < 50; line++) {
+            int width = switch (line) {
+                case 0 -> 10000;
+                case 1 -> 1;
+                case 2 -> 0;
+                case 48 -> 9999;
+                case 49 -> 77;
+                default -> 30;
+            };
+            Due.answer("lacks(" + line + ")", x.lacks(line), width);
         }
-        due("shape(0, 10000)", x.shape(0, 10000), 1);
-        due("shape(2, 0)", x.shape(2, 0), 1);
-        due("shape(49, 77)", x.shape(49, 77), 1);
-        x.setting(0, 10000);
-        for (int i = 0; i < 49; i++) {
-            x.penalty(-10000, 0, false);
-        }
-        due("run", x.run(), 50);
-        due("line 0", x.lacks(0), 10000);
-        due("line 1", x.lacks(1), 30);
-        due("line 2", x.lacks(2), 0);
-        due("line 48", x.lacks(48), 30);
-        due("line 49", x.lacks(49), 77);
-        BreakSearch y = new BreakSearch(10);
-        y.shape(1, 20);
-        for (int i = 0; i < 4; i++) {
-            y.box(10);
-            y.glue(0, 0, 0);
-        }
-        y.clear();
-        for (int i = 0; i < 4; i++) {
-            y.box(10);
-            y.penalty(0, 0, false);
-        }
-        due("lines by their numbers", y.run(), 3);
-        dueWay("shaped", y, 1, 300, 1, 5, 8);
     }
+
+    private static void shapeRefused() {
+        promise(5, "BAD");
+        BreakSearch x = Made.open(30, Made.times(49, "pen:-10000"));
+        for (int far : with(FAR, -1)) {
+            Due.answer("shape(" + far + ", 5)", x.shape(far, 5), BAD);
+            Due.answer("shape(0, " + far + ")", x.shape(0, far), BAD);
+            Due.answer("shape(49, " + far + ")", x.shape(49, far), BAD);
+        }
+        Due.answer("shape(50, 5)", x.shape(50, 5), BAD);
+        Due.answer("shape(51, 5)", x.shape(51, 5), BAD);
+        Due.answer("shape(100, 5)", x.shape(100, 5), BAD);
+        Due.answer("shape(0, 10001)", x.shape(0, 10001), BAD);
+        Due.answer("shape(50, 10001)", x.shape(50, 10001), BAD);
+        Due.answer("run()", x.run(), 50);
+        for (int line = 0; line < 50; line++) {
+            Due.answer("lacks(" + line + ") after what was refused", x.lacks(line), 30);
+        }
+    }
+
+    // Promise 6
 
     private static void setting() {
-        BreakSearch x = new BreakSearch(200);
-        int[][] bad = {{-1, 0}, {3, 0}, {0, -2}, {1, -2}, {2, -1}, {0, 10001}, {1, 10001}, {2, 10001},
-            {Integer.MIN_VALUE, 0}, {Integer.MAX_VALUE, 0}};
-        for (int[] s : bad) {
-            due("bad setting", x.setting(s[0], s[1]), -1);
+        promise(6, "The first tolerance (what = 0), the second one (1), each -1 .. 10000 .. : 1");
+        BreakSearch x = new BreakSearch(101);
+        Made.add(x, Made.lineItems(0, 0));
+        for (int what = 0; what < 2; what++) {
+            Due.answer("setting(" + what + ", 9999)", x.setting(what, 9999), 1);
+            Due.answer("run()", x.run(), 0);
+            Due.answer("setting(" + what + ", 10000)", x.setting(what, 10000), 1);
+            Due.answer("run()", x.run(), 2);
+            Due.answer("pass()", x.pass(), what + 1);
+            Due.answer("setting(" + what + ", 0)", x.setting(what, 0), 1);
+            Due.answer("run()", x.run(), 0);
+            Due.answer("setting(" + what + ", -1)", x.setting(what, -1), 1);
         }
-        int[][] good = {{0, -1}, {1, -1}, {2, 0}, {0, 10000}, {1, 10000}, {2, 10000}};
-        for (int[] s : good) {
-            due("setting", x.setting(s[0], s[1]), 1);
-        }
-        x.setting(0, -1);
-        due("first -1: run", x.run(), 1);
-        due("first -1: pass", x.pass(), 2);
-        x.setting(1, -1);
-        due("both -1", x.run(), 0);
-        x.setting(0, 0);
-        due("first 0", x.run(), 1);
-        due("first 0: pass", x.pass(), 1);
-        emergency();
-    }
-
-    /** 100 lacking, of a stretch of 50: bad by 800; with 50 more by 100, with 49 more by 103. */
-    private static void emergency() {
-        BreakSearch x = oneLine(200, 50, 0);
-        x.setting(0, 799);
-        x.setting(1, 100);
-        x.setting(2, 49);
-        due("too little stretch", x.run(), 0);
-        x.setting(2, 50);
-        due("enough stretch", x.run(), 2);
-        due("pass 3", x.pass(), 3);
-        dueLine("stretched more", x, 0, 100, 100, 2);
-        x.setting(1, 103);
-        x.setting(2, 49);
-        x.run();
-        dueLine("class with the stretch more", x, 0, 100, 103, 3);
-        x.setting(2, 200);
-        x.run();
-        dueLine("class with the stretch more", x, 0, 100, 6, 1);
-        x.setting(0, 800);
-        x.run();
-        due("pass 1 is first", x.pass(), 1);
-        dueLine("no more in pass 1", x, 0, 100, 800, 3);
-        x.setting(0, 0);
-        x.setting(1, 800);
-        x.run();
-        due("pass 2 is before 3", x.pass(), 2);
-        dueLine("no more in pass 2", x, 0, 100, 800, 3);
-        BreakSearch y = oneLine(99, 0, 0);
-        y.setting(2, 10000);
-        due("the stretch is no shrink", y.run(), 0);
-    }
-
-    private static void run() {
-        BreakSearch x = new BreakSearch(10);
-        x.box(10);
-        x.penalty(-11, 0, false);
-        due("run", x.run(), 2);
-        dueWay("a last line of nothing", x, 1, 200 - 121, 1, 2);
-        runTies();
-        runLineLimit();
-        runKeeps();
-        BreakSearch y = rows(10, 10, 10);
-        y.run();
-        y.box(1);
-        due("run without a way", y.run(), 0);
-        dueWay("nothing told any more", y, 0, 0);
-        dueLine("nothing told any more", y, 0, 0, 0, 0);
-    }
-
-    private static void runTies() {
-        BreakSearch x = new BreakSearch(0);
-        x.box(0);
-        x.penalty(-10, 0, false);
-        due("fewest lines of equal demerits", x.run(), 1);
-        dueWay("fewest", x, 1, 100, 2);
         x.clear();
-        x.box(0);
-        x.penalty(-20, 0, false);
-        x.penalty(-20, 0, false);
-        x.penalty(-20, 0, false);
-        due("least demerits before fewest lines", x.run(), 4);
-        due("loose", x.loose(3), 1);
-        dueWay("the first of equal ones", x, 1, -500, 1, 2, 4);
-        BreakSearch y = new BreakSearch(20);
-        y.setting(0, 10000);
-        for (int i = 0; i < 4; i++) {
-            y.box(10);
-            y.penalty(0, 0, false);
-        }
-        y.shape(1, 10);
-        y.shape(2, 10);
-        due("run", y.run(), 3);
-        dueWay("by the first break", y, 1, 300, 3, 5, 8);
-    }
-
-    private static void runLineLimit() {
-        BreakSearch x = new BreakSearch(0);
-        x.setting(0, 10000);
-        for (int i = 0; i < 49; i++) {
-            x.penalty(-10000, 0, false);
-        }
-        due("50 lines", x.run(), 50);
-        x.penalty(-10000, 0, false);
-        due("51 lines", x.run(), 0);
-        due("after it", x.lines(), 0);
-    }
-
-    private static void runKeeps() {
-        BreakSearch x = rows(20, 15, 20);
+        Due.answer("run(): -1 tolerates nothing", x.run(), 0);
+        x.setting(1, 0);
+        Due.answer("run(): 0 tolerates what is not bad", x.run(), 1);
+        Due.answer("pass()", x.pass(), 2);
+        x.setting(0, 0);
         x.run();
-        for (int i = 0; i < 7; i++) {
-            if (i == 1) {
-                x.box(3);
-            } else if (i == 2) {
-                x.glue(1, 1, 1);
-            } else if (i == 3) {
-                x.penalty(0, 0, false);
-            } else if (i == 4) {
-                x.shape(0, 99);
-            } else if (i == 5) {
-                x.setting(0, 0);
-            } else if (i == 6) {
-                x.clear();
+        Due.answer("pass()", x.pass(), 1);
+    }
+
+    private static void settingEmergency() {
+        promise(6, "the EMERGENCY stretch (2), 0 .. 10000: 1");
+        BreakSearch x = Made.plain(10000, "pen:-10000");
+        Due.answer("run()", x.run(), 0);
+        Due.answer("setting(2, 10000)", x.setting(2, 10000), 1);
+        Due.answer("run()", x.run(), 2);
+        Due.line(x, 0, 10000, 100, 2);
+        x.setting(1, 100);
+        Due.answer("setting(2, 9999)", x.setting(2, 9999), 1);
+        Due.answer("run(): 100.03 leaves 100", x.run(), 2);
+        Due.line(x, 0, 10000, 100, 3);
+        Due.answer("setting(2, 0)", x.setting(2, 0), 1);
+        Due.answer("run()", x.run(), 0);
+    }
+
+    private static void settingRefused() {
+        promise(6, "BAD");
+        BreakSearch x = Made.plain(101, Made.lineItems(0, 0));
+        x.setting(0, 5);
+        x.setting(1, 6);
+        for (int far : with(FAR, -2, 10001)) {
+            for (int what = 0; what < 3; what++) {
+                Due.answer("setting(" + what + ", " + far + ")", x.setting(what, far), BAD);
             }
-            dueWay("kept", x, 1, 100200100L + 100 + CLASS_FEE, 1, 3);
-            dueLine("kept", x, 0, 5, 10000, 3);
-            dueLine("kept", x, 1, 0, 0, 1);
+            Due.answer("setting(" + far + ", 10000)", x.setting(far, 10000), BAD);
+        }
+        Due.answer("setting(2, -1)", x.setting(2, -1), BAD);
+        Due.answer("setting(-1, 10000)", x.setting(-1, 10000), BAD);
+        Due.answer("setting(3, 10000)", x.setting(3, 10000), BAD);
+        Due.answer("setting(4, 10000)", x.setting(4, 10000), BAD);
+        Due.answer("run() after what was refused", x.run(), 0);
+        x.clear();
+        Made.add(x, "box:100 glue:0:10 pen:-10000:0");
+        x.shape(0, 104);
+        Due.answer("run(), badness 6", x.run(), 2);
+        Due.answer("pass() of tolerance 6, not of 5", x.pass(), 2);
+        x.shape(0, 105);
+        Due.answer("run(), badness 12", x.run(), 0);
+    }
+
+    // Promise 7
+
+    private static void runNumber() {
+        promise(7, "THE BEST way is found: how many lines it has");
+        Due.answer("run() of nothing", new BreakSearch(0).run(), 1);
+        Due.answer("run() of 2 lines", Made.open(10, "box:10 glue:0 box:10").run(), 2);
+        Due.answer("run() of 50 lines", Made.open(10, Made.times(49, "pen:-10000")).run(), 50);
+    }
+
+    private static void runWithoutWay() {
+        promise(7, "0 when no pass has a way (then there is none that is told)");
+        BreakSearch x = Made.open(10, "box:11");
+        Due.answer("run()", x.run(), 0);
+        Due.noWay(x);
+        BreakSearch y = Made.found(10, "box:10 pen:-10000 box:9 pen:-10000 box:10");
+        Due.answer("lines()", y.lines(), 3);
+        y.box(1);
+        Due.answer("run()", y.run(), 0);
+        Due.noWay(y);
+        for (int line = 0; line < 3; line++) {
+            Due.noLine(y, line);
+        }
+        Due.answer("loose(3)", y.loose(3), BAD);
+        y.clear();
+        Due.answer("run() again", y.run(), 1);
+        Due.way(y, 1, 100, 0);
+    }
+
+    private static void whateverComesMeanwhile() {
+        promise(7, "What is found is told as it is now till the next run() .. whatever comes meanwhile");
+        for (int which = 0; which < 14; which++) {
+            BreakSearch x = Made.found(20, "box:15 pen:-10000 box:20");
+            meanwhile(x, which);
+            Due.way(x, 1, WORST_LINE + 100 + CLASS_FEE, 1, 3);
+            Due.line(x, 0, 5, 10000, 3);
+            Due.line(x, 1, 0, 0, 1);
+        }
+        BreakSearch y = Made.found(20, "box:15 pen:-10000 box:20");
+        for (int which = 0; which < 14; which++) {
+            meanwhile(y, which);
+            Due.way(y, 1, WORST_LINE + 100 + CLASS_FEE, 1, 3);
+        }
+        Due.answer("run()", y.run(), 1);
+        Due.way(y, 2, 100, 0);
+        Due.line(y, 0, 99, 0, 1);
+    }
+
+    private static void meanwhile(BreakSearch x, int which) {
+        switch (which) {
+            case 1 -> x.box(3);
+            case 2 -> x.glue(1, 1, 1);
+            case 3 -> x.penalty(-10000, 0, true);
+            case 4 -> x.shape(0, 99);
+            case 5 -> x.setting(0, -1);
+            case 6 -> x.setting(2, 100);
+            case 7 -> x.clear();
+            case 8 -> x.loose(0);
+            case 9 -> x.loose(40);
+            case 10 -> x.box(-1);
+            case 11 -> x.shape(50, 1);
+            case 12 -> x.setting(0, -2);
+            case 13 -> Due.answer("at(2)", x.at(2), -1);
+            default -> Due.answer("lines()", x.lines(), 2);
         }
     }
 
-    private static void loose() {
-        BreakSearch x = new BreakSearch(20);
-        due("loose before run", x.loose(1), -1);
-        for (int i = 0; i < 4; i++) {
-            x.box(10);
-            x.penalty(0, 0, false);
+    private static void runAsItIsNow() {
+        promise(7, "till the next run()");
+        BreakSearch x = Made.found(10, "box:10 mark:0 box:10");
+        Due.way(x, 2, 200, 1, 3);
+        x.clear();
+        Made.add(x, "box:10 pen:0 box:10 glue:0 box:10");
+        x.run();
+        Due.way(x, 1, 300, 1, 3, 5);
+        x.shape(0, 20);
+        x.run();
+        Due.way(x, 1, 200, 3, 5);
+
+        promise(7, "or loose() that finds one");
+        BreakSearch y = Made.found(20, "box:10 pen:0 box:10");
+        Due.way(y, 1, 100, 3);
+        y.shape(0, 10);
+        y.shape(1, 30);
+        Due.answer("loose(1)", y.loose(1), 0);
+        Due.way(y, 1, 100, 3);
+        Due.answer("loose(2)", y.loose(2), 1);
+        Due.way(y, 1, 200, 1, 3);
+        Due.line(y, 1, 20, 0, 1);
+    }
+
+    // Promise 8
+
+    private static void looseNumber() {
+        promise(8, "The best way with just so many lines (1 .. 50)");
+        BreakSearch x = Made.found(0, Made.times(99, "pen:0"));
+        for (int lines = 50; lines >= 1; lines--) {
+            Due.answer("loose(" + lines + ")", x.loose(lines), 1);
+            Due.answer("lines()", x.lines(), lines);
+            Due.answer("demerits()", x.demerits(), 100L * lines);
+            for (int line = 0; line < lines - 1; line++) {
+                Due.answer("at(" + line + ")", x.at(line), line);
+            }
+            Due.answer("at(" + (lines - 1) + ")", x.at(lines - 1), 99);
+            Due.noLine(x, lines);
         }
-        x.setting(0, 10000);
-        due("run", x.run(), 2);
-        for (int bad : new int[] {0, -1, 51, Integer.MIN_VALUE, Integer.MAX_VALUE}) {
-            due("loose " + bad, x.loose(bad), -1);
-        }
-        dueWay("loose that is BAD changes nothing", x, 1, 200, 3, 8);
-        due("loose(1)", x.loose(1), 0);
-        due("loose(6)", x.loose(6), 0);
-        due("loose(50)", x.loose(50), 0);
-        dueWay("loose that finds none changes nothing", x, 1, 200, 3, 8);
-        due("loose(3)", x.loose(3), 1);
-        dueWay("loose(3)", x, 1, 300, 3, 7, 8);
-        due("loose(2)", x.loose(2), 1);
-        dueWay("loose(2)", x, 1, 200, 3, 8);
-        looseAsItIsNow();
-        loosePass();
+        BreakSearch y = Made.found(20, Made.times(4, "box:10 pen:0"));
+        Due.way(y, 1, 200, 3, 8);
+        Due.answer("loose(3)", y.loose(3), 1);
+        Due.way(y, 1, 300, 3, 7, 8);
+        Due.answer("loose(2)", y.loose(2), 1);
+        Due.way(y, 1, 200, 3, 8);
+    }
+
+    private static void looseBest() {
+        promise(8, "The best way .. it is told by what follows then");
+        BreakSearch x = Made.found(20, "box:10 glue:0:10 box:10 pen:30 box:10 glue:0:5 box:0 pen:-40");
+        Due.way(x, 1, 100 + 900 + 100, 3, 8);
+        Due.answer("loose(3)", x.loose(3), 1);
+        Due.way(x, 1, 100 + 900 + 810L * 810 - 1600 + 100 + CLASS_FEE + CLASS_FEE, 3, 7, 8);
+        Due.line(x, 1, 10, 800, 3);
+        Due.line(x, 2, 20, 0, 1);
+    }
+
+    private static void loosePass() {
+        promise(8, "in the pass that run() found");
+        BreakSearch x = Made.found(10, "box:10");
+        x.penalty(0, 0, true);
+        Due.answer("loose(2): in pass 1", x.loose(2), 0);
+        x.setting(0, -1);
+        x.run();
+        Due.answer("loose(2): in pass 2", x.loose(2), 1);
+        Due.way(x, 2, 200, 1, 2);
+        x.setting(0, 0);
+        x.setting(1, -1);
+        x.setting(2, 10000);
+        Due.answer("loose(1): pass 1 would have one", x.loose(1), 0);
+        BreakSearch y = Made.plain(20, "box:10 glue:0:10 pen:-10000");
+        y.setting(1, 99);
+        y.setting(0, 99);
+        y.setting(2, 1);
+        Due.answer("run()", y.run(), 2);
+        Due.way(y, 3, 85 * 85 + 100, 2, 3);
+        Due.line(y, 0, 10, 75, 2);
+        y.setting(0, 10000);
+        y.setting(1, 10000);
+        y.setting(2, 10);
+        Due.answer("loose(2): in pass 3", y.loose(2), 1);
+        Due.way(y, 3, 22 * 22 + 100, 2, 3);
+        Due.line(y, 0, 10, 12, 1);
+        BreakSearch z = Made.plain(20, "box:10 glue:0:8 mark:-10000");
+        z.setting(2, 100);
+        z.run();
+        Due.way(z, 2, 205 * 205 + 100 + CLASS_FEE, 2, 3);
+        Due.answer("loose(2): no more stretch in pass 2", z.loose(2), 1);
+        Due.way(z, 2, 205 * 205 + 100 + CLASS_FEE, 2, 3);
+        z.setting(1, 194);
+        Due.answer("loose(2): pass 3 would have one", z.loose(2), 0);
     }
 
     private static void looseAsItIsNow() {
-        BreakSearch x = rows(10, 10, 10);
-        x.run();
+        promise(8, "by items, widths and settings as they are now");
+        BreakSearch x = Made.found(10, "box:10 pen:-10000 box:10");
         x.shape(1, 12);
         x.box(2);
-        due("loose by items and widths of now", x.loose(2), 1);
-        dueWay("now", x, 1, 200, 1, 4);
+        Due.answer("loose(2)", x.loose(2), 1);
+        Due.way(x, 1, 200, 1, 4);
+        Due.line(x, 1, 0, 0, 1);
         x.penalty(0, 0, false);
         x.setting(0, -1);
-        due("loose by settings of now", x.loose(3), 0);
-        due("still told", x.lines(), 2);
+        Due.answer("loose(3)", x.loose(3), 0);
         x.setting(0, 0);
-        due("loose by settings of now", x.loose(3), 1);
-        dueWay("now", x, 1, 300, 1, 4, 5);
+        Due.answer("loose(3)", x.loose(3), 1);
+        Due.way(x, 1, 300, 1, 4, 5);
+        x.clear();
+        Due.answer("loose(3)", x.loose(3), 0);
+        Due.answer("loose(1)", x.loose(1), 1);
+        Due.way(x, 1, 100, 0);
     }
 
-    /** Only the pass that run() found counts, though another would have a way. */
-    private static void loosePass() {
-        BreakSearch x = new BreakSearch(10);
-        x.box(10);
-        x.run();
-        x.penalty(0, 0, true);
-        due("loose keeps to pass 1", x.loose(2), 0);
-        x.setting(0, -1);
-        x.run();
-        due("pass", x.pass(), 2);
-        due("loose in pass 2", x.loose(2), 1);
-        dueWay("in pass 2", x, 2, 200, 1, 2);
-        x.setting(0, 0);
-        x.setting(1, -1);
-        due("no turning back to pass 1", x.loose(1), 0);
-        BreakSearch y = oneLine(200, 50, 0);
-        y.setting(0, 0);
-        y.setting(2, 50);
-        y.run();
-        due("pass", y.pass(), 3);
-        y.setting(2, 100);
-        due("loose in pass 3", y.loose(2), 1);
-        due("pass", y.pass(), 3);
-        dueLine("in pass 3, by the stretch of now", y, 0, 100, 29, 2);
-        y.box(500);
-        due("run", y.run(), 0);
-        due("loose when nothing was found", y.loose(1), -1);
+    private static void looseNone() {
+        promise(8, "0 when there is none (what is told stays)");
+        BreakSearch x = Made.found(20, "box:10 pen:0 box:10 pen:-10000 box:9 pen:0");
+        Due.way(x, 1, 200, 3, 6);
+        for (int lines : new int[] {1, 5, 50}) {
+            Due.answer("loose(" + lines + ")", x.loose(lines), 0);
+            Due.way(x, 1, 200, 3, 6);
+            Due.line(x, 0, 0, 0, 1);
+            Due.line(x, 1, 11, 0, 1);
+        }
+        x.loose(3);
+        Due.ends(x, 3, 5, 6);
+        Due.answer("loose(5)", x.loose(5), 0);
+        Due.ends(x, 3, 5, 6);
     }
+
+    private static void looseRefused() {
+        promise(8, "BAD");
+        BreakSearch x = Made.found(20, "box:10 pen:0 box:10 pen:-10000 box:9");
+        for (int far : with(FAR, -1, 0, 51, 52)) {
+            Due.answer("loose(" + far + ")", x.loose(far), BAD);
+            Due.way(x, 1, 200, 3, 5);
+        }
+
+        promise(8, "BAD; also when nothing was found");
+        BreakSearch y = Made.open(10, "box:10");
+        for (int lines : new int[] {0, 1, 2, 50, 51}) {
+            Due.answer("loose(" + lines + ") before run()", y.loose(lines), BAD);
+        }
+        Due.noWay(y);
+        y.box(1);
+        Due.answer("run()", y.run(), 0);
+        Due.answer("loose(1)", y.loose(1), BAD);
+        y.clear();
+        Due.answer("loose(1) though there is a way now", y.loose(1), BAD);
+        Due.noWay(y);
+        y.run();
+        Due.answer("loose(1) when one was found", y.loose(1), 1);
+        Due.answer("loose(2) when one was found", y.loose(2), 0);
+    }
+
+    // Promises 9 to 15: what is told
 
     private static void lines() {
-        BreakSearch x = rows(10, 10, 10, 10);
-        due("lines before run", x.lines(), 0);
+        promise(9, "How many lines the way found has");
+        BreakSearch x = Made.open(10, "box:10 pen:-10000 box:10");
+        Due.answer("lines() before run()", x.lines(), 0);
         x.run();
-        due("lines", x.lines(), 3);
+        Due.answer("lines()", x.lines(), 2);
         x.penalty(0, 0, false);
-        due("lines stay", x.lines(), 3);
-        x.loose(4);
-        due("lines after loose", x.lines(), 4);
+        Due.answer("lines() till the next run()", x.lines(), 2);
+        x.loose(3);
+        Due.answer("lines() after loose(3)", x.lines(), 3);
+        x.box(11);
+        x.run();
+        Due.answer("lines() without a way", x.lines(), 0);
+        Due.answer("lines(), the most", Made.found(0, Made.times(49, "pen:-10000")).lines(), 50);
     }
 
     private static void at() {
-        BreakSearch x = rows(10, 10, 10);
-        due("at before run", x.at(0), -1);
-        x.run();
-        due("at(0)", x.at(0), 1);
-        due("at(1)", x.at(1), 3);
-        for (int none : new int[] {-1, 2, 49, 50, Integer.MIN_VALUE, Integer.MAX_VALUE}) {
-            due("at(" + none + ")", x.at(none), -1);
-        }
-        BreakSearch y = new BreakSearch(10000);
-        for (int i = 0; i < 100; i++) {
-            y.box(100);
-        }
+        promise(10, "Where a line of the way found ends: the number of an item");
+        Due.ends(Made.found(10, "pen:-10000 box:10 glue:0 box:10 pen:-10000"), 0, 2, 4, 5);
+
+        promise(10, "how many items there are, for the END");
+        Due.answer("at(0), no items", Made.found(10, "").at(0), 0);
+        Due.answer("at(0), 1 item", Made.found(10, "box:1").at(0), 1);
+        Due.answer("at(0), 100 items", Made.found(10, Made.times(100, "box:0")).at(0), 100);
+        Due.ends(Made.found(10, Made.times(99, "box:0") + " pen:-10000"), 99, 100);
+        BreakSearch x = Made.found(10, "box:1");
+        x.box(1);
+        Due.answer("at(0) till the next run()", x.at(0), 1);
+
+        promise(10, "-1 when there is no such line");
+        BreakSearch y = Made.open(10, "box:10 pen:-10000 box:10");
+        Due.answer("at(0) before run()", y.at(0), -1);
         y.run();
-        due("the END of 100 items", y.at(0), 100);
+        for (int none : with(Due.NO_LINES, 2, 3, 49)) {
+            Due.answer("at(" + none + ")", y.at(none), -1);
+        }
+        BreakSearch most = Made.found(0, Made.times(49, "pen:-10000"));
+        Due.answer("at(49)", most.at(49), 49);
+        for (int none : Due.NO_LINES) {
+            Due.answer("at(" + none + ")", most.at(none), -1);
+        }
+        y.loose(2);
+        y.clear();
+        y.run();
+        Due.answer("at(1) of a way that is told no more", y.at(1), -1);
     }
 
     private static void lacks() {
-        due("more", measured(110, 5, 5).lacks(0), 10);
-        due("none", measured(100, 5, 5).lacks(0), 0);
-        due("less", measured(97, 5, 5).lacks(0), -3);
-        BreakSearch x = measured(97, 5, 5);
-        for (int none : new int[] {-1, 2, 50, Integer.MIN_VALUE, Integer.MAX_VALUE}) {
-            due("lacks(" + none + ")", x.lacks(none), 0);
+        promise(11, "What a line of it LACKS");
+        Due.answer("lacks(0), the least", Made.found(0, Made.times(100, "glue:1000:0:1000")).lacks(0), -100000);
+        Due.answer("lacks(0), none", Made.line(100, 0, 0).lacks(0), 0);
+        Due.answer("lacks(0), the most", Made.found(-1, "").lacks(0), 16383);
+
+        promise(11, "0 when there is no such line");
+        BreakSearch x = rough();
+        Due.answer("lacks(0) before run()", x.lacks(0), 0);
+        x.run();
+        Due.answer("lacks(0)", x.lacks(0), 11);
+        Due.answer("lacks(49)", x.lacks(49), 11);
+        for (int none : Due.NO_LINES) {
+            Due.answer("lacks(" + none + ")", x.lacks(none), 0);
         }
+        roughGone(x);
+        Due.answer("lacks(0)", x.lacks(0), 0);
+        Due.answer("lacks(1)", x.lacks(1), 0);
+        Due.answer("lacks(49)", x.lacks(49), 0);
     }
 
-    private static BreakSearch measured(int width, int stretch, int shrink) {
-        BreakSearch x = oneLine(width, stretch, shrink);
-        x.run();
-        return x;
+    /** 50 lines, each 11 short; the first 49 have no stretch, so that they are bad by 10000 and of class 3. */
+    private static BreakSearch rough() {
+        return Made.open(11, Made.times(49, "pen:-10000"));
+    }
+
+    /** One line that lacks nothing, in place of the 50. */
+    private static void roughGone(BreakSearch x) {
+        x.clear();
+        x.box(11);
+        Due.answer("run()", x.run(), 1);
     }
 
     private static void badness() {
-        int[][] wide = {{0, 0, 0}, {1, 0, 10000}, {1, 100, 0}, {10, 10, 100}, {10, 11, 75}, {46, 10, 9733},
-            {47, 10, 10000}, {10000, 1, 10000}, {10000, 10000, 100}, {9999, 10000, 99}, {1, 2, 12}};
-        for (int[] b : wide) {
-            due("badness when lacking " + b[0], measured(100 + b[0], b[1], 0).badness(0), b[2]);
-        }
-        int[][] tight = {{1, 1, 100}, {1, 2, 12}, {99, 100, 97}, {100, 100, 100}, {50, 1000, 0}};
-        for (int[] b : tight) {
-            due("badness when over by " + b[0], measured(100 - b[0], 0, b[1]).badness(0), b[2]);
-        }
-        due("no line when over by more than it shrinks", measured(98, 10000, 1).lines(), 0);
-        BreakSearch x = new BreakSearch(16383);
-        x.box(0);
-        x.run();
-        dueLine("at the END nothing is bad", x, 0, 16383, 0, 1);
-        x.shape(0, 100);
-        x.glue(0, 0, 20);
-        x.box(110);
-        x.run();
-        dueLine("but for what shrinks", x, 0, -10, 12, 1);
-        for (int none : new int[] {-1, 1, 50, Integer.MIN_VALUE, Integer.MAX_VALUE}) {
-            due("badness(" + none + ")", x.badness(none), 0);
-        }
-        hugeSums();
-    }
+        promise(12, "The badness of a line of the way found");
+        Due.answer("badness(0), the least", Made.line(100, 0, 0).badness(0), 0);
+        Due.answer("badness(0), the most", Made.line(101, 0, 0).badness(0), 10000);
 
-    /** Sums whose cubes are far above an int. */
-    private static void hugeSums() {
-        BreakSearch x = new BreakSearch(10000);
-        x.setting(0, 10000);
-        for (int i = 0; i < 98; i++) {
-            x.glue(0, 10000, 0);
-        }
-        x.penalty(-10000, 0, false);
+        promise(12, "0 when there is no such line");
+        BreakSearch x = rough();
+        Due.answer("badness(0) before run()", x.badness(0), 0);
         x.run();
-        dueLine("huge stretch", x, 0, 10000, 0, 1);
-        x.clear();
-        x.shape(0, 0);
-        for (int i = 0; i < 98; i++) {
-            x.glue(990, 0, 1000);
+        Due.answer("badness(0)", x.badness(0), 10000);
+        Due.answer("badness(48)", x.badness(48), 10000);
+        Due.answer("badness(49)", x.badness(49), 0);
+        for (int none : Due.NO_LINES) {
+            Due.answer("badness(" + none + ")", x.badness(none), 0);
         }
-        x.penalty(-10000, 0, false);
-        x.run();
-        dueLine("huge shrink", x, 0, -97020, 97, 0);
-        x.clear();
-        for (int i = 0; i < 100; i++) {
-            x.glue(10000, 0, 1000);
-        }
-        due("far too long", x.run(), 0);
+        roughGone(x);
+        Due.answer("badness(1)", x.badness(1), 0);
+        Due.answer("badness(48)", x.badness(48), 0);
     }
 
     private static void classOf() {
-        int[][] wide = {{0, 0, 1}, {1, 0, 3}, {5, 10, 1}, {6, 10, 2}, {10, 10, 2}, {11, 10, 3}, {5, 11, 1}, {6, 11, 2}};
-        for (int[] c : wide) {
-            due("class when lacking " + c[0] + " of " + c[1], measured(100 + c[0], c[1], 0).classOf(0), c[2]);
+        promise(13, "The class of a line of the way found");
+        int[] widths = {94, 100, 106, 111};
+        for (int sort = 0; sort < 4; sort++) {
+            Due.answer("classOf(0)", Made.line(widths[sort], 10, 10).classOf(0), sort);
         }
-        int[][] tight = {{5, 10, 1}, {6, 10, 0}, {10, 10, 0}, {5, 11, 1}, {6, 11, 0}};
-        for (int[] c : tight) {
-            due("class when over by " + c[0] + " of " + c[1], measured(100 - c[0], 0, c[1]).classOf(0), c[2]);
+
+        promise(13, "0 when there is no such line");
+        BreakSearch x = rough();
+        Due.answer("classOf(0) before run()", x.classOf(0), 0);
+        x.run();
+        Due.answer("classOf(0)", x.classOf(0), 3);
+        Due.answer("classOf(49)", x.classOf(49), 1);
+        for (int none : Due.NO_LINES) {
+            Due.answer("classOf(" + none + ")", x.classOf(none), 0);
         }
-        BreakSearch x = measured(110, 5, 5);
-        due("class of the last line", x.classOf(1), 1);
-        for (int none : new int[] {-1, 2, 50, Integer.MIN_VALUE, Integer.MAX_VALUE}) {
-            due("classOf(" + none + ")", x.classOf(none), 0);
-        }
+        roughGone(x);
+        Due.answer("classOf(1)", x.classOf(1), 0);
+        Due.answer("classOf(49)", x.classOf(49), 0);
     }
 
     private static void demerits() {
-        due("none", new BreakSearch(1).demerits(), 0);
-        due("(10 + 100)^2 and 10^2", measured(110, 10, 0).demerits(), 12100 + 100);
-        due("(10 + 100)^2 and 10^2: of class 0", measured(90, 0, 10).demerits(), 12100 + 100);
-        due("of class 3", measured(111, 10, 0).demerits(), 143L * 143 + 100 + CLASS_FEE);
-        BreakSearch x = oneLine(90, 0, 10);
-        x.shape(1, 110);
-        for (int to : new int[] {2, 3}) {
-            x.clear();
-            x.box(100);
-            x.glue(0, 0, 10);
-            x.box(0);
-            x.penalty(-10000, 0, false);
-            x.box(100);
-            x.glue(0, to == 2 ? 10 : 9, 0);
-            x.box(0);
-            x.penalty(-10000, 0, false);
-            x.run();
-            due("classes 0 and " + to, x.classOf(1), to);
-            long second = to == 2 ? 110 * 110 : 147 * 147;
-            due("demerits of classes 0 and " + to, x.demerits(), 12100 + second + 100 + CLASS_FEE
-                + (to == 3 ? CLASS_FEE : 0));
-        }
-        BreakSearch most = new BreakSearch(10000);
-        most.setting(0, 10000);
-        for (int i = 0; i < 49; i++) {
-            most.box(1);
-            most.penalty(9999, 0, false);
-        }
+        promise(14, "The sum of its demerits");
+        BreakSearch most = Made.open(10000, Made.times(49, "box:1 pen:9999"));
         most.run();
-        due("one line is best", most.demerits(), 100);
-        due("50 lines", most.loose(50), 1);
-        due("49 of the worst", most.demerits(), 49 * (10010L * 10010 + 9999L * 9999) + 100 + CLASS_FEE);
+        Due.answer("demerits()", most.demerits(), 100);
+        Due.answer("loose(50)", most.loose(50), 1);
+        Due.answer("demerits(), far above an int", most.demerits(),
+                49 * (WORST_LINE + 9999L * 9999) + 100 + CLASS_FEE);
+        BreakSearch least = Made.found(0, Made.times(49, "pen:-9999"));
+        Due.answer("demerits(), far below 0", least.demerits(), 50 * 100 - 49 * 9999L * 9999);
+        Due.answer("demerits(), just below 0", Made.found(0, "pen:-15").demerits(), 200 - 225);
+
+        promise(14, "0 without a way");
+        BreakSearch x = Made.open(10, "box:10 pen:-100");
+        Due.answer("demerits() before run()", x.demerits(), 0);
+        x.run();
+        Due.answer("demerits()", x.demerits(), 200 - 10000);
+        x.box(11);
+        x.run();
+        Due.answer("demerits()", x.demerits(), 0);
     }
 
     private static void pass() {
-        BreakSearch x = new BreakSearch(10);
-        due("pass before run", x.pass(), 0);
-        x.box(10);
-        x.penalty(-100, 0, true);
-        x.box(0);
-        x.run();
-        dueWay("pass 1 breaks at no mark, though it would be better", x, 1, 100, 3);
-        x.setting(0, -1);
-        x.run();
-        dueWay("pass 2 does", x, 2, 200 - 10000, 1, 3);
-        x.setting(1, -1);
-        x.run();
-        due("no pass", x.pass(), 0);
+        promise(15, "The pass in which it was found");
+        BreakSearch x = Made.plain(20, "box:10 glue:0:8 pen:-10000");
+        int[][] asked = {{195, 0, 0, 1}, {0, 195, 0, 2}, {0, 0, 40, 3}, {195, 195, 40, 1}, {0, 195, 40, 2}};
+        for (int[] settings : asked) {
+            x.setting(0, settings[0]);
+            x.setting(1, settings[1]);
+            x.setting(2, settings[2]);
+            Due.answer("run()", x.run(), 2);
+            Due.answer("pass()", x.pass(), settings[3]);
+            Due.answer("loose(2)", x.loose(2), 1);
+            Due.answer("pass() after loose(2)", x.pass(), settings[3]);
+        }
+
+        promise(15, "0 without one");
+        BreakSearch y = Made.open(10, "box:10");
+        Due.answer("pass() before run()", y.pass(), 0);
+        y.run();
+        Due.answer("pass()", y.pass(), 1);
+        y.box(1);
+        y.run();
+        Due.answer("pass()", y.pass(), 0);
     }
+
+    // Promise 16
 
     private static void clear() {
+        promise(16, "No items .. how many there were");
         BreakSearch x = new BreakSearch(10);
-        due("clear of nothing", x.clear(), 0);
-        x.shape(0, 33);
-        x.setting(0, -1);
-        x.setting(1, 7);
-        x.box(10);
-        x.penalty(-10000, 5, true);
-        x.glue(1, 1, 1);
-        due("clear", x.clear(), 3);
-        due("clear again", x.clear(), 0);
-        x.run();
-        dueWay("settings stay", x, 2, 100, 0);
-        dueLine("widths stay", x, 0, 33, 0, 1);
-        x.box(10);
-        x.box(20);
-        due("what was there is gone", x.run(), 1);
-        dueLine("what was there is gone", x, 0, 3, 0, 1);
-        for (int i = 0; i < 100; i++) {
-            x.clear();
-            due("first number", x.glue(1, 1, 1), 0);
-        }
+        Due.answer("clear() of none", x.clear(), 0);
+        Made.add(x, "box:10 mark:-10000:5 glue:1:1:1");
+        Due.answer("clear() of 3", x.clear(), 3);
+        Due.answer("clear() again", x.clear(), 0);
+        Made.add(x, Made.times(100, "pen:-10000"));
+        Due.answer("clear() of 100", x.clear(), 100);
+        Made.add(x, "box:3 box:4 box:1");
+        Due.answer("run(): nothing is left of the penalties", x.run(), 1);
+        Due.way(x, 1, 100, 3);
+        Due.line(x, 0, 2, 0, 1);
+        x.clear();
+        Due.answer("run() of none", x.run(), 1);
+        Due.way(x, 1, 100, 0);
     }
 
-    public static void main(String[] args) {
-        newObject();
-        box();
-        glue();
-        penalty();
+    private static void clearLeavesNoMarks() {
+        promise(16, "No items");
+        BreakSearch x = Made.plain(10, "mark:-10000:9 mark:7:9 mark:-9:9");
+        x.clear();
+        Made.add(x, "pen:-10000:10 pen:-10000:10 pen:-10000:10");
+        Due.answer("run()", x.run(), 4);
+        Due.way(x, 1, 400, 0, 1, 2, 3);
+        x.clear();
+        Made.add(x, "glue:5:0:0 box:5 glue:0:0:0 box:10");
+        x.run();
+        Due.way(x, 1, 200, 2, 4);
+    }
+
+    private static void clearKeeps() {
+        promise(16, "widths of lines and settings stay");
+        BreakSearch x = Made.plain(10, "box:1");
+        x.shape(0, 33);
+        x.shape(49, 44);
+        x.setting(0, 7);
+        x.setting(1, 195);
+        x.setting(2, 40);
+        x.clear();
+        Made.add(x, "box:29 glue:0:10 pen:-10000");
+        Due.answer("run()", x.run(), 2);
+        Due.way(x, 1, 16 * 16 + 100, 2, 3);
+        Due.line(x, 0, 4, 6, 1);
+        x.clear();
+        Made.add(x, "box:23 glue:0:8 pen:-10000");
+        x.run();
+        Due.way(x, 2, 205 * 205 + 100 + CLASS_FEE, 2, 3);
+        x.setting(1, 194);
+        x.clear();
+        Made.add(x, "box:23 glue:0:8 pen:-10000");
+        x.run();
+        Due.way(x, 3, 100 + 100, 2, 3);
+        x.setting(0, 10000);
+        x.clear();
+        Made.add(x, Made.times(49, "pen:-10000"));
+        Due.answer("run()", x.run(), 50);
+        Due.answer("lacks(0)", x.lacks(0), 33);
+        Due.answer("lacks(1)", x.lacks(1), 10);
+        Due.answer("lacks(49)", x.lacks(49), 44);
+    }
+
+    private static void items() {
+        newHasNoItems();
+        newWidth();
+        newSettings();
+        boxNumbers();
+        full(2, "box:0");
+        glueNumbers();
+        full(3, "glue:0");
+        penaltyNumbers();
+        full(4, "pen:0");
+        badWhenFull();
         shape();
+        shapeRefused();
         setting();
-        run();
-        loose();
+        settingEmergency();
+        settingRefused();
+    }
+
+    private static void searches() {
+        runNumber();
+        runWithoutWay();
+        whateverComesMeanwhile();
+        runAsItIsNow();
+        looseNumber();
+        looseBest();
+        loosePass();
+        looseAsItIsNow();
+        looseNone();
+        looseRefused();
+    }
+
+    private static void answers() {
         lines();
         at();
         lacks();
@@ -722,9 +787,16 @@ public final class BreakSearchPromises {
         demerits();
         pass();
         clear();
-        System.out.println(wrong == 0 ? "all promises hold" : wrong + " answers break a promise");
-        if (wrong != 0) {
-            System.exit(1);
-        }
+        clearLeavesNoMarks();
+        clearKeeps();
+    }
+
+    public static void main(String[] args) {
+        lastOfManyCalls();
+        constants();
+        items();
+        searches();
+        answers();
+        Due.finish();
     }
 }
